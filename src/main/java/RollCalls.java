@@ -584,7 +584,7 @@ public final class RollCalls {
         int sector;
         /** Coming out ends being open, and missing, in just those rolls that had begun by then. */
         int rollsBegunAtLeaving;
-        /** Being counted finds a person in all rolls of lower numbers, so the greatest is enough. */
+        /** Being counted finds a person in all rolls of lower numbers: the greatest is enough. */
         int greatestRollCounted;
 
         Person() {

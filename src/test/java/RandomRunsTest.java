@@ -4,13 +4,17 @@ import java.util.Map;
 import java.util.Random;
 import java.util.TreeMap;
 
-/** Random runs of 512 calls, the same each time: the class must answer what the Model answers. */
+/**
+ * Random runs of 512 calls, the same each time: the class must answer what the Model answers. The
+ * looks at the whole state behind a run are calls that the document leaves free; the class keeps no
+ * number of calls, so they show what the run left behind.
+ */
 public final class RandomRunsTest {
     private static final int RUNS = 2000;
     private static final int CALLS = 512;
     private static final int[] WILD = {
-        Integer.MIN_VALUE, -1000, -2, -1, 0, 9, 10, 39, 40, 59, 60, 100, 999, 1000, 5000, 5001, 9999,
-        10000, 10001, 99999, 100000, Integer.MAX_VALUE};
+        Integer.MIN_VALUE, -1000, -2, -1, 0, 9, 10, 39, 40, 59, 60, 100, 999, 1000, 5000, 5001,
+        9999, 10000, 10001, 99999, 100000, Integer.MAX_VALUE};
 
     /** By names of calls: the kinds of their arguments, each a letter (see argument). */
     private static final String[][] CALL_KINDS = {
@@ -25,7 +29,8 @@ public final class RandomRunsTest {
     /** A run does much of a little, so that it comes to its limits. */
     private static final List<List<String>> THEMES = List.of(
             List.of("person"), List.of("enter"), List.of("enter", "leave"), List.of("roll"),
-            List.of("roll", "round", "answer"), List.of("roll", "round", "enter", "answer", "missing"),
+            List.of("roll", "round", "answer"),
+            List.of("roll", "round", "enter", "answer", "missing"),
             List.of("answer"), List.of("seen"), List.of("roll", "round", "leave", "enter"),
             List.of("mayday", "answered"), List.of("mayday", "answered", "roll", "round"),
             List.of("evacuate", "confirm"), List.of("evacuate", "confirm", "tick", "late"),
@@ -64,20 +69,22 @@ public final class RandomRunsTest {
                 System.exit(1);
             }
         }
-        System.out.println(RUNS + " runs as due: " + outcomes);
+        System.out.println(RUNS + " runs as due, " + outcomes.size() + " kinds of outcomes");
         if (outcomes.size() != KINDS_OF_OUTCOMES) {
-            System.out.println("but not each call came to each of its outcomes");
+            System.out.println("but not each call came to each of its outcomes: " + outcomes);
             System.exit(1);
         }
     }
 
     private boolean isAsDue() {
+        int calls = 0;
         for (int p = random.nextInt(12); p > 0; p--) {
             if (!isAsDue("person") || !isAsDue("enter", persons - 1, random.nextInt(spread))) {
                 return false;
             }
+            calls += 2;
         }
-        for (int i = 0; i < CALLS; i++) {
+        for (; calls < CALLS; calls++) {
             String[] call = CALL_KINDS[drawn()];
             int[] arguments = call[1].chars().map(kind -> argument((char) kind)).toArray();
             if (!isAsDue(call[0], arguments)) {
