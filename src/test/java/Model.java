@@ -55,6 +55,10 @@ final class Model {
     private final TreeSet<Integer> waiting = new TreeSet<>();
     private final List<Evacuation> evacuations = new ArrayList<>();
 
+    String ofWritten(String call) {
+        return outcome(Outcome.writtenName(call), Outcome.writtenArguments(call));
+    }
+
     String outcome(String name, int... a) {
         switch (name) {
             case "person": return person();

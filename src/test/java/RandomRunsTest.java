@@ -24,7 +24,7 @@ public final class RandomRunsTest {
         {"confirm", "s"}, {"late", "ei"}, {"tick", "t"}, {"was", "pt"}, {"count", "w"}};
 
     /** An answer (or nothing) of each of the 20 calls, and each throw that the face names. */
-    private static final int KINDS_OF_OUTCOMES = 20 + 44;
+    static final int KINDS_OF_OUTCOMES = 20 + 44;
 
     /** A run does much of a little, so that it comes to its limits. */
     private static final List<List<String>> THEMES = List.of(

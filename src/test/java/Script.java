@@ -1,4 +1,6 @@
-import java.util.Arrays;
+import java.util.LinkedHashSet;
+import java.util.List;
+import java.util.Set;
 
 /**
  * Runs written calls on one new RollCalls and tells each whose answer is not the one that is due.
@@ -11,13 +13,18 @@ import java.util.Arrays;
  *   300 x call(1, 2); call(3)           the calls, so often, in turn; none may throw
  *   # words                             a remark
  * </pre>
+ *
+ * <p>A run keeps to the 512 calls that the document promises answers for.
  */
 final class Script {
+    private static final int MOST_CALLS = 512;
+
     private static int wrong = 0;
     private static int rows = 0;
 
     private final String name;
     private final RollCalls object = new RollCalls();
+    private int calls = 0;
 
     private Script(String name) {
         this.name = name;
@@ -31,6 +38,29 @@ final class Script {
                 rows++;
                 script.runRow(trimmed);
             }
+        }
+    }
+
+    /**
+     * Runs the call, a ? in it standing for a number, on a new object behind the setup for each
+     * number at the edges of a range: those inside must be taken, those outside refused. A range
+     * up to Integer.MAX_VALUE has no upper side.
+     */
+    static void range(
+            String name, String setup, String call, int lowest, int highest, String refusal) {
+        Set<Integer> inside = new LinkedHashSet<>(List.of(lowest, highest));
+        if (lowest < highest) {
+            inside.addAll(List.of(lowest + 1, highest - 1));
+        }
+        for (int taken : inside) {
+            run(name, setup + "\n" + call.replace("?", "" + taken));
+        }
+        Set<Integer> outside = new LinkedHashSet<>(List.of(lowest - 1, Integer.MIN_VALUE));
+        if (highest < Integer.MAX_VALUE) {
+            outside.addAll(List.of(highest + 1, Integer.MAX_VALUE));
+        }
+        for (int refused : outside) {
+            run(name, setup + "\n" + call.replace("?", "" + refused) + " ! " + refusal);
         }
     }
 
@@ -65,11 +95,10 @@ final class Script {
     }
 
     private String outcome(String call) {
-        int bracket = call.indexOf('(');
-        String inside = call.substring(bracket + 1, call.lastIndexOf(')')).trim();
-        int[] arguments = inside.isEmpty() ? new int[0]
-                : Arrays.stream(inside.split(",")).map(String::trim)
-                        .mapToInt(Integer::parseInt).toArray();
-        return Outcome.of(object, call.substring(0, bracket), arguments);
+        calls++;
+        if (calls > MOST_CALLS) {
+            return "call " + calls + " of the run, whose answer is free";
+        }
+        return Outcome.ofWritten(object, call);
     }
 }
