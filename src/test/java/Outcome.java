@@ -13,7 +13,7 @@ final class Outcome {
     private Outcome() {
     }
 
-    /** The number that the call answers, "nothing", or the class that it throws. */
+    /** The number that the call answers, "nothing", or the class that it throws by a throw. */
     static String of(RollCalls object, String name, int... arguments) {
         Object[] boxed = new Object[arguments.length];
         for (int i = 0; i < boxed.length; i++) {
@@ -23,10 +23,19 @@ final class Outcome {
             Object answer = METHODS.computeIfAbsent(name, Outcome::method).invoke(object, boxed);
             return answer == null ? NOTHING : answer.toString();
         } catch (InvocationTargetException e) {
-            return e.getCause().getClass().getSimpleName();
+            return thrown(e.getCause());
         } catch (IllegalAccessException e) {
             throw new AssertionError(e);
         }
+    }
+
+    /** Only a throw statement of the class counts: the library throws some of the same classes. */
+    private static String thrown(Throwable cause) {
+        StackTraceElement[] trace = cause.getStackTrace();
+        boolean byTheClass = trace.length > 0
+                && trace[0].getClassName().matches("RollCalls(\\$.*)?");
+        String name = cause.getClass().getSimpleName();
+        return byTheClass ? name : name + " of the machine";
     }
 
     private static Method method(String name) {
